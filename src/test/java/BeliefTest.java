@@ -43,8 +43,12 @@ public final class BeliefTest {
 
     private static void byHand() {
         HiredEnemy x = new HiredEnemy();
-        x.seen(3);
-        believed("8 and 8 at first", x, 1, 1);
+        for (int kind = 0; kind < 4; kind++) {
+            x.seen(kind);
+            believed("8 and 8 at first", x, 1, 1);
+        }
+        x.siege(0);
+        believed("1 to 1 at first", x, 1, 1);
         x.odds(99, 66);
         believed("in least terms", x, 3, 2);
         Check.due("20: forgotten", () -> x.count(2), 0);

@@ -42,6 +42,9 @@ public final class DukesTest {
         Check.due("29: with a month for none", x::most, 11);
         Check.due("30: one, none, two", () -> x.serves(0) * 100 + x.serves(1) * 10 + x.serves(2), 102);
         Check.due("30: none without coin", () -> x.serves(3), 0);
+        HiredEnemy unasked = new HiredEnemy();
+        unasked.offers(2, 4, 1);
+        Check.due("30: without most", () -> unasked.serves(4), 2);
         HiredEnemy all = new HiredEnemy();
         for (int m = 0; m < 12; m++) {
             all.offers(1, m, 999);

@@ -53,6 +53,11 @@ public final class EarnestTest {
         Check.due("26: one digit", () -> one.stands(6, 4), 4);
         Check.due("27: not for show", () -> one.show(2, 1), 0);
         Check.due("27: for show", () -> one.show(2, 2), 1);
+        Check.due("26: of the siege that is told", () -> Check.with("wall 1 0;wall 2 0;").stands(1, 1), 1);
+        Check.due("27: of the siege that is told", () -> Check.with("wall 1 0;wall 2 0;").show(1, 0), 1);
+        one.siege(0);
+        Check.due("26: no wall any more", () -> one.stands(6, 4), 0);
+        Check.due("27: no wall any more", () -> one.show(2, 2), 0);
         HiredEnemy none = new HiredEnemy();
         Check.due("25: no wall", () -> none.earnest(6, 0, 0) + none.earnest(6, 0, 1) + none.stands(0, 6) + none.show(6, 0), 0);
     }

@@ -78,6 +78,7 @@ public final class ImagesTest {
         x.image();
         x.siege(0);
         Check.due("3: no images", x::restore, -1);
+        Check.due("32: odds at first are the image's", () -> x.believed(0) * 10 + x.believed(1), 34);
     }
 
     private static void status() {

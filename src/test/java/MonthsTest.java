@@ -217,6 +217,11 @@ public final class MonthsTest {
         Check.due("14: month 119", () -> x.corks(119, 0), 1);
         Check.due("14: month 99", () -> x.corks(99, 0), 0);
         Check.due("15: none goes by", () -> x.would(0, 60, 9), 20);
+        String end = Check.state(x);
+        Check.due("12: the last", () -> x.undo(1), 1);
+        Check.due("12: 119", () -> x.told(2) * 100 + x.sums(9), 11919);
+        x.months(9);
+        Check.same("11: the last again", Check.state(x), end);
         Check.due("12: all", () -> x.undo(120), 120);
     }
 

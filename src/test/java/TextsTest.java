@@ -4,6 +4,8 @@ public final class TextsTest {
         newObject();
         tape();
         siegeTexts();
+        behindTheText();
+        withoutClauses();
         siegeRanges();
         siegeCounts();
         siegeClears();
@@ -101,6 +103,8 @@ public final class TextsTest {
         fault("wall ", -9, 5);
         fault("wal 1 1;", -9, 0);
         fault("wallx 1 1;", -9, 0);
+        fault("wallz 1 1;", -9, 0);
+        fault("walla 1 1;", -9, 0);
         fault(" Wall 1 1;", -9, 1);
         fault("wAll 1 1;", -9, 0);
         fault(";", -9, 0);
@@ -122,6 +126,39 @@ public final class TextsTest {
         fault("wall 1 1;duke 1 x 1;wall 0 1;", -9, 16);
         fault("wall 1 1;duke 1 1000 x;", -8, 16);
         fault("mason 00000000000000000000000000000000000009;", 0, -1);
+    }
+
+    /** What stands on the TAPE behind the first n bytes is not of the text. */
+    private static void behindTheText() {
+        String tape = "wall 12 34;mason 2;  ";
+        for (int n = 0; n <= tape.length(); n++) {
+            HiredEnemy x = new HiredEnemy();
+            Check.feed(x, tape);
+            int length = n;
+            boolean whole = n == 0 || n == 11 || n >= 19;
+            // A word that is cut short is none.
+            boolean cutWord = n < 4 || n > 11 && n < 16;
+            Check.due("3: the first " + n, () -> x.siege(length), !whole ? -9 : n == 0 ? 0 : 1);
+            Check.due("5: the first " + n, x::fault, whole ? -1 : !cutWord ? n : n < 4 ? 0 : 11);
+        }
+        HiredEnemy x = new HiredEnemy();
+        Check.feed(x, "mason 99;");
+        Check.due("3: a number that is cut short", () -> x.siege(7), -9);
+        Check.due("5: at the length", x::fault, 7);
+    }
+
+    private static void withoutClauses() {
+        HiredEnemy x = Check.with("wall 2 1;", "corks 3;");
+        x.sign(0);
+        x.months(1);
+        Check.due("1: fear 10 more for a breach, 5 less a month", () -> x.sums(5), 25);
+        Check.due("1: mason 1", () -> x.sums(0), 1000 + 4 - 1 - 30);
+        Check.due("1: the town's", () -> x.sums(2), 5000 - 4 + 1 + 30);
+        HiredEnemy near = Check.with("fear 20 0 0;", "near 0;", "near 1;", "near 2;", "near 3;", "near 4;", "near 8;");
+        for (int i = 0; i < 6; i++) {
+            int c = i;
+            Check.due("1: 9 less R", () -> near.would(c, 1, 5), 20 + 9 - (i < 5 ? i : 8));
+        }
     }
 
     /** One CLAUSE with its k-th number at the edges: low and high stand, high + 1 (and low - 1) does not. */
@@ -199,6 +236,19 @@ public final class TextsTest {
         x.seen(1);
         Check.due("3: kinds stay", () -> x.believed(0) * 10 + x.believed(1), 25);
         Check.due("33: refusals stay", () -> x.status(2), 1);
+        HiredEnemy used = Check.with("wall 1 0;wall 1 0;duke 500 0 0;", "pay 90;winter 99;near 3;corks 7;bonus 8;till 5;breach 0 0;breach 1 1;", "corks 9;bonus 5;winter 1;");
+        used.sign(0);
+        used.months(2);
+        used.months(4);
+        used.siege(0);
+        Check.same("3: sums as new", Check.state(used), Check.state(new HiredEnemy()));
+        Check.due("3: walls anew", () -> Check.siege(used, "wall 3 0;wall 4 0;"), 2);
+        Check.due("3: no breaches of them", () -> used.wall(0, 3) + used.wall(1, 3), 0);
+        used.contract(0);
+        rules(used, 0, 0, 0, 9, 0, 0, 36, 0);
+        Check.due("4: a fault", () -> Check.contract(used, "pay 9;corks 9;bonus 9;near 1;till 1;winter 2;breach 0 0;x"), -9);
+        used.contract(0);
+        rules(used, 1, 0, 0, 9, 0, 0, 36, 0);
         HiredEnemy last = Check.with("duke 1 1 1;near 2 5;near 2 7;duke 20 30 4;near 3 1;wall 3 0;", "near 2;", "near 3;", "near 4;");
         Check.due("1: of duke the last", () -> last.sums(0) * 100 + last.sums(3), 2030);
         last.sign(0);
@@ -256,6 +306,10 @@ public final class TextsTest {
         Check.due("5: not read", x::fault, -1);
         Check.due("4: tape", () -> x.count(1), 0);
         Check.due("4: still 6", () -> x.told(1), 6);
+        Check.due("3: a fault", () -> Check.siege(x, "mason 1;x"), -9);
+        Check.due("5: of the siege", x::fault, 8);
+        Check.due("4: there are 6 still", () -> Check.contract(x, "pay 7;"), -1);
+        Check.due("5: the latest text", x::fault, -1);
         Check.due("4: the last", () -> x.rule(5, 0), 6);
         Check.illegal("4: n goes first", () -> x.contract(1));
     }

@@ -50,6 +50,12 @@ public final class TryingTest {
         Check.due("17: corks, the first", () -> cheap.offer(60, 1), 0);
         Check.due("17: pay", () -> cheap.offer(60, 2), 2);
         Check.due("17: paid for all 60", () -> cheap.offer(60, 3), 380);
+        String deaf = "near 0 0;near 1 0;near 2 0;near 3 0;near 4 0;near 5 0;near 6 0;near 7 0;near 8 0;";
+        String loud = "mason 0;cost 1 0;duke 9 900 0;town 9999 100;fear 0 50 0;" + deaf;
+        HiredEnemy twenty = Check.with("wall 20 50;" + loud);
+        Check.due("17: up to 20 corks", () -> twenty.offer(2, 0) * 100 + twenty.offer(2, 1), 920);
+        HiredEnemy more = Check.with("wall 21 50;" + loud);
+        Check.due("17: not 21, so nearer, where every second takes 2", () -> more.offer(2, 0) * 100 + more.offer(2, 1), 414);
         HiredEnemy stop = Check.with(flat, "pay 9;");
         stop.sign(0);
         Check.due("19: at once", () -> stop.stop(10, 0), 0);
