@@ -178,7 +178,7 @@ public final class HiredEnemy {
         int gone = 0;
         while (gone < n && scene.course.month < MOST_MONTHS) {
             scene.annals.keep(scene.course);
-            pass(scene.course);
+            scene.course.pass(plan, inForce(scene.course));
             scene.annals.lead(scene.course);
             gone++;
         }
@@ -424,14 +424,14 @@ public final class HiredEnemy {
         }
     }
 
-    private void pass(Course course) {
-        int inForce = course.now[IN_FORCE];
-        course.pass(plan, within(inForce, 0, PROPOSAL) ? pacts[inForce] : null);
+    private Pact inForce(Course course) {
+        int pact = course.now[IN_FORCE];
+        return within(pact, 0, PROPOSAL) ? pacts[pact] : null;
     }
 
     private void passTried(int n) {
         for (int i = 0; i < n && trial.month < MOST_MONTHS; i++) {
-            pass(trial);
+            trial.pass(plan, inForce(trial));
         }
     }
 
@@ -606,7 +606,7 @@ public final class HiredEnemy {
         private static final int COST = 21;
 
         final int[] said = new int[UNTOLD.length];
-        final int[] fearByNear = new int[MOST_NEAR + 1];
+        private final int[] fearByNear = new int[MOST_NEAR + 1];
         final int[] strength = new int[MOST_WALLS];
         final int[] mended = new int[MOST_WALLS];
         int walls;
@@ -670,6 +670,11 @@ public final class HiredEnemy {
                 mended[walls] = monthly;
                 walls++;
             }
+        }
+
+        /** What FEAR is more by a MONTH at this NEARNESS. */
+        int fearAt(int r) {
+            return within(r, 0, MOST_NEAR) ? fearByNear[r] : 0;
         }
 
         int wanted(int r, int corks) {
@@ -778,9 +783,10 @@ public final class HiredEnemy {
             return left >= 10 || left <= 1 ? winterPay() : said[PAY];
         }
 
-        /** The WALL that is to fall in a MONTH of this CONTRACT, or NONE. */
-        int wallDue(int ownMonth) {
-            return within(ownMonth, 0, MOST_TILL - 1) ? wallByMonth[ownMonth] : NONE;
+        /** The WALL of these that is to fall in a MONTH of this CONTRACT, or NONE. */
+        int wallDue(int ownMonth, int wallsThere) {
+            int wall = within(ownMonth, 0, MOST_TILL - 1) ? wallByMonth[ownMonth] : NONE;
+            return wall < wallsThere ? wall : NONE;
         }
     }
 
@@ -825,7 +831,7 @@ public final class HiredEnemy {
             move(TOWN_COIN, DUKE_COIN, now[DUKE_MEN] * plan.said[Plan.TOWN + 1] * now[FEAR] / 10000);
             if (pact != null && isPaid(pact)) {
                 shoot(plan, pact);
-                frighten(plan.fearByNear[pact.said[Pact.NEAR]]);
+                frighten(plan.fearAt(pact.said[Pact.NEAR]));
             }
             now[FEAR] = Math.max(0, now[FEAR] - plan.said[Plan.FEARS + 2]);
             mend(plan);
@@ -857,7 +863,7 @@ public final class HiredEnemy {
         }
 
         private void shoot(Plan plan, Pact pact) {
-            int due = pact.wallDue(month - now[SIGNED]);
+            int due = pact.wallDue(month - now[SIGNED], plan.walls);
             int fallenBefore = due == NONE ? 0 : now[FALLEN + due];
             // Without WALLS there is nothing that a cork could be led to.
             int corks = plan.walls > 0 ? pact.said[Pact.CORKS] : 0;

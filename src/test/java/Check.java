@@ -1,9 +1,11 @@
 import java.util.function.LongSupplier;
+import java.util.function.LongUnaryOperator;
 
 /** What all tests share: texts fed as numbers, answers compared, refusals told by name. */
 final class Check {
     private static int wrong;
     private static int looked;
+    private static String about = "";
 
     private Check() {
     }
@@ -26,13 +28,22 @@ final class Check {
         if (!got.equals(want)) {
             wrong++;
             if (wrong <= 50) {
-                System.out.println(what + " answered " + got + ", due is " + want);
+                System.out.println((about.isEmpty() ? "" : "[" + about + "] ") + what + " answered " + got + ", due is " + want);
             }
         }
     }
 
     static void same(String what, long got, long want) {
         same(what, Long.toString(got), Long.toString(want));
+    }
+
+    /** What the checks that follow are about. */
+    static void about(String sentence) {
+        about = sentence;
+    }
+
+    static int looked() {
+        return looked;
     }
 
     static void illegal(String what, LongSupplier call) {
@@ -109,6 +120,59 @@ final class Check {
             }
         }
         return all.toString();
+    }
+
+    /** All that the face tells without changing anything. */
+    static String whole(HiredEnemy x) {
+        StringBuilder all = new StringBuilder(state(x));
+        for (int c = 0; c < x.told(1); c++) {
+            for (int i = 0; i < 7; i++) {
+                all.append(x.rule(c, i)).append(' ');
+            }
+        }
+        all.append(x.fault()).append(' ').append(x.believed(0)).append(' ').append(x.believed(1)).append(' ').append(x.most()).append(' ');
+        for (int i = 0; i < 12; i++) {
+            all.append(x.serves(i)).append(' ');
+        }
+        for (int i = 0; i < 3; i++) {
+            all.append(x.count(i)).append(' ');
+        }
+        for (int r = 0; r <= 9; r++) {
+            all.append(x.wants(r, 7)).append(' ');
+        }
+        return all.toString();
+    }
+
+    /** A call that is refused: by this exception, counted once for this reason, and all stays. */
+    static void refused(String what, HiredEnemy x, String exception, LongSupplier call) {
+        String[] reasons = {"NoSuchElementException", "IndexOutOfBoundsException", "IllegalArgumentException"};
+        String before = whole(x);
+        int[] counted = {x.status(0), x.status(1), x.status(2)};
+        same(what, answer(call), exception);
+        for (int i = 0; i < 3; i++) {
+            same(what + ", status(" + i + ")", x.status(i), counted[i] + (reasons[i].equals(exception) ? 1 : 0));
+        }
+        same(what + ", all stays", whole(x), before);
+    }
+
+    static void refusedArgument(String what, HiredEnemy x, LongSupplier call) {
+        refused(what, x, "IllegalArgumentException", call);
+    }
+
+    /** Each of the numbers just outside of low to high, and far outside, is refused. */
+    static void outside(String what, HiredEnemy x, int low, int high, LongUnaryOperator call) {
+        for (int n : new int[] {low - 1, high + 1, Integer.MIN_VALUE, Integer.MAX_VALUE, low - 256, high + 65536}) {
+            refusedArgument(what + " " + n, x, () -> call.applyAsLong(n));
+        }
+    }
+
+    /** Each of the numbers of low to high is taken. */
+    static void inside(String what, int low, int high, LongUnaryOperator call) {
+        for (int n = low; n <= high; n++) {
+            int number = n;
+            String got = answer(() -> call.applyAsLong(number));
+            same(what + " " + n + " is taken", got.endsWith("Exception") ? got : "taken", "taken");
+        }
     }
 
     static void end(String test) {
