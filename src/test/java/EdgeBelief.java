@@ -185,6 +185,10 @@ final class EdgeBelief {
         Check.siege(six, "wall 9 0;");
         Check.due("those of the latest SIEGE", () -> six.earnest(6, 0, 0), 9);
         Check.due("bits of the latest SIEGE", () -> six.show(0, 0), 1);
+        Check.due("one digit", () -> six.stands(1, 3), 3);
+        six.siege(0);
+        Check.due("no WALL any more: no digit", () -> six.stands(1, 3), 0);
+        Check.due("no WALL any more", () -> six.earnest(6, 0, 0) + six.earnest(6, 0, 1) + six.show(1, 3), 0);
     }
 
     private static void falls() {

@@ -136,6 +136,7 @@ final class EdgeMonths {
     private static void taxesAtMost() {
         String rest = "enemy 0 0 0;fear 100 0 0;";
         sum("9,900 by 10,000", after(1, "duke 0 99 0;town 99 1;" + rest, ""), 0, 0);
+        sum("9,999 by 10,000", after(1, "duke 0 101 0;town 99 99;enemy 0 0 0;fear 1 0 0;", ""), 0, 0);
         sum("10,000 by 10,000", after(1, "duke 0 100 0;town 99 1;" + rest, ""), 0, 1);
         sum("19,900 by 10,000", after(1, "duke 0 199 0;town 99 1;" + rest, ""), 0, 1);
         sum("just what it has", after(1, "duke 0 100 0;town 50 50;" + rest, ""), 2, 0);
@@ -309,6 +310,18 @@ final class EdgeMonths {
         early.sign(1);
         early.months(1);
         sum("its fall in an earlier MONTH does not count", early, 7, 1);
+        HiredEnemy second = Check.with("wall 9 0;wall 2 0;wall 2 0;" + STILL, "corks 2;breach 1 0;breach 2 1;", "corks 1;breach 1 0;breach 2 1;");
+        second.sign(0);
+        second.months(2);
+        sum("WALLS 1 and 2 fell", second, 7, 0);
+        second.sign(1);
+        second.months(1);
+        sum("WALL 1 did not", second, 7, 1);
+        second.months(1);
+        sum("nor did WALL 2", second, 7, 2);
+        second.sign(-1);
+        second.months(1);
+        sum("none is told without a CONTRACT", second, 7, 2);
     }
 
     private static void fearOfNearness() {
@@ -356,6 +369,8 @@ final class EdgeMonths {
         HiredEnemy one = after(1, "duke 1 0 0;" + rest, "corks 6;");
         Check.due("1 is enough for none", () -> one.wall(0, 1), 3);
         sum("it is left", one, 0, 1);
+        HiredEnemy cheap = after(1, "duke 3 0 0;" + rest + "mason 1;", "corks 6;");
+        Check.due("3 are enough for 3 at 1 each", () -> cheap.wall(0, 1), 6);
         HiredEnemy none = after(1, "duke 0 0 0;" + rest, "corks 6;");
         Check.due("0", () -> none.wall(0, 1), 3);
         HiredEnemy free = after(1, "duke 0 0 0;" + rest + "mason 0;", "corks 6;");
@@ -479,6 +494,9 @@ final class EdgeMonths {
             Check.same("all corks, MONTH " + month, sum, shot);
             Check.due("shot, MONTH " + month, () -> x.sums(9), shot);
         }
+        HiredEnemy bare = after(3, STILL, "corks 9;near 0;bonus 5;");
+        sum("without WALLS none can be led, so none is shot", bare, 9, 0);
+        sum("nor is anything breached", bare, 6, 0);
         Check.due("MONTH 118, WALL 2", () -> x.corks(118, 2), 99);
         Check.due("MONTH 117, WALL 0", () -> x.corks(117, 0), 17);
         Check.due("MONTH 116", () -> x.corks(116, 0) + x.corks(116, 1) + x.corks(116, 2), 0);

@@ -103,7 +103,7 @@ final class EdgeTapes {
     }
 
     private static void anew() {
-        HiredEnemy x = Check.with("wall 9 1;duke 90 80 7;", "pay 2;corks 20;near 0;bonus 1;", "pay 91;");
+        HiredEnemy x = Check.with("wall 9 1;duke 90 80 7;", "pay 2;winter 3;corks 20;near 0;bonus 1;till 30;breach 0 9;", "pay 91;");
         x.sign(0);
         x.months(3);
         x.sign(1);
@@ -126,7 +126,12 @@ final class EdgeTapes {
         Check.due("no OFFERS", () -> x.offers(1, 0, 0) + x.offers(2, 11, 0), 0);
         Check.due("no IMAGES", () -> x.count(0), 0);
         Check.due("nothing to restore", x::restore, -1);
-        Check.due("the first CONTRACT again", () -> Check.contract(x, "pay 1;"), 0);
+        Check.due("the first CONTRACT again", () -> Check.contract(x, ""), 0);
+        int[] rules = {0, 0, 9, 0, 0, 36, 0};
+        for (int i = 0; i < 7; i++) {
+            int what = i;
+            Check.due("nothing of the one before, rule " + i, () -> x.rule(0, what), rules[i]);
+        }
         for (int i = 1; i <= 3; i++) {
             int images = i;
             Check.due("3 IMAGES again", x::image, images);
@@ -265,5 +270,10 @@ final class EdgeTapes {
         Check.due("at 499", x::fault, 499);
         Check.siege(x, "mason 1" + " ".repeat(493));
         Check.due("at 500", x::fault, 500);
+        HiredEnemy full = Check.with("", "", "", "", "", "", "");
+        Check.siege(full, "x");
+        Check.due("of the SIEGE", full::fault, 0);
+        Check.contract(full, "x");
+        Check.due("a 7th CONTRACT is not read: NONE", full::fault, -1);
     }
 }

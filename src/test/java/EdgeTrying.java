@@ -109,6 +109,8 @@ final class EdgeTrying {
         Check.due("the first of three", () -> last.best(6, 0), 2);
         HiredEnemy sixth = Check.with(fear, "pay 9;", "pay 9;", "pay 9;", "pay 9;", "pay 9;", "near 0;");
         Check.due("the 6th", () -> sixth.best(60, 0), 5);
+        HiredEnemy cooks = Check.with("duke 500 100 3;enemy 0 0 3;town 0 0;", "pay 1;");
+        Check.due("none: the coin n MONTHS on", () -> cooks.best(5, 1), 500 - 150);
         HiredEnemy poor = Check.with("duke 0 0 0;enemy 0 0 0;town 0 0;", "pay 1;");
         Check.due("0 coin each: the first", () -> poor.best(60, 0), 0);
         Check.due("0 coin", () -> poor.best(60, 1), 0);
@@ -200,6 +202,12 @@ final class EdgeTrying {
         HiredEnemy all = Check.with("wall 9 3;duke 500 100 0;enemy 0 0 0;town 9999 100;fear 100 0 1;mason 1;", "near 8;till 9;");
         all.sign(0);
         Check.due("100 at most: FEAR stays by it, as it counts in the next MONTH", () -> all.stop(3, 0), 2);
+        HiredEnemy full = Check.with("wall 9 1;mason 9;duke 100 0 0;enemy 0 0 0;town 0 0;", "corks 8;till 1;", "corks 2;");
+        full.sign(0);
+        full.months(1);
+        full.sign(1);
+        // 2 corks fell the WALL, which is full at once, so that nothing is to be mended.
+        Check.due("n itself", () -> full.stop(1, 0), 1);
         HiredEnemy ended = Check.with(fear, "near 0;till 2;");
         ended.sign(0);
         Check.due("behind its end it is the same: the least", () -> ended.stop(9, 0), 2);
