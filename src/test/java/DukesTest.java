@@ -74,7 +74,7 @@ public final class DukesTest {
         }
     }
 
-    private static int tryAll(int[][] coin, int[] way, int month, int sum, int[] first, int most) {
+    static int tryAll(int[][] coin, int[] way, int month, int sum, int[] first, int most) {
         if (month == 12) {
             if (sum > most) {
                 System.arraycopy(way, 0, first, 0, 12);

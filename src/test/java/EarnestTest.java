@@ -93,7 +93,7 @@ public final class EarnestTest {
         return sum;
     }
 
-    private static int[] safe(int[] strength, int a, int d) {
+    static int[] safe(int[] strength, int a, int d) {
         int least = Integer.MAX_VALUE;
         int digits = 0;
         for (int[] duke : ways(d, strength.length)) {
@@ -112,7 +112,7 @@ public final class EarnestTest {
         return new int[] {least, digits};
     }
 
-    private static int sure(int[] strength, int a, int d) {
+    static int sure(int[] strength, int a, int d) {
         int most = 0;
         for (int[] enemy : ways(a, strength.length)) {
             int least = Integer.MAX_VALUE;
@@ -124,7 +124,7 @@ public final class EarnestTest {
         return most;
     }
 
-    private static int[] without(int[] strength, int wall) {
+    static int[] without(int[] strength, int wall) {
         int[] others = new int[strength.length - 1];
         for (int i = 0; i < others.length; i++) {
             others[i] = strength[i < wall ? i : i + 1];

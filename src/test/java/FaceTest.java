@@ -6,7 +6,7 @@ import java.util.TreeSet;
 
 /** The public face is the document's, and nothing else. */
 public final class FaceTest {
-    private static final String[] FACE = {
+    static final String[] FACE = {
         "int feed(int,int,int,int,int)", "int siege(int) IAE", "int contract(int) IAE", "int fault()",
         "int told(int) IAE", "int wall(int,int) IOOBE IAE", "int rule(int,int) NSEE IAE", "int wants(int,int) IAE",
         "int sign(int) NSEE", "int months(int) IAE", "int undo(int) IAE", "int sums(int) IAE",

@@ -22,17 +22,52 @@ public final class ReadingTest {
     };
 
     /** A text as it was read: its FAULT (0: none), the place, and what its parts said. */
-    private static final class Read {
+    static final class Read {
         int fault;
         int place = -1;
         final List<String> words = new ArrayList<>();
         final List<int[]> numbers = new ArrayList<>();
+        private final Map<String, List<int[]>> byWord = new HashMap<>();
 
         boolean fail(int what, int where) {
             fault = what;
             place = where;
             return false;
         }
+
+        void add(String word, int... said) {
+            words.add(word);
+            numbers.add(said);
+            byWord.computeIfAbsent(word, w -> new ArrayList<>()).add(said);
+        }
+
+        /** What was said behind this word, from the left. */
+        List<int[]> all(String word) {
+            return byWord.getOrDefault(word, List.of());
+        }
+
+        int[] last(String word, int... without) {
+            List<int[]> all = all(word);
+            return all.isEmpty() ? without : all.get(all.size() - 1);
+        }
+    }
+
+    static Read readSiege(String text) {
+        return read(text, SIEGE_WORDS, SIEGE_LIMITS, 60, 0);
+    }
+
+    static Read readContract(String text, int walls) {
+        return read(text, CONTRACT_WORDS, CONTRACT_LIMITS, 20, walls);
+    }
+
+    /** A CONTRACT as offer() tries it. */
+    static Read proposed(int pay, int r, int corks, int till) {
+        Read read = new Read();
+        read.add("pay", pay);
+        read.add("near", r);
+        read.add("corks", corks);
+        read.add("till", till);
+        return read;
     }
 
     public static void main(String[] args) {
@@ -127,13 +162,12 @@ public final class ReadingTest {
         if (!tokens.get(at + 1 + numbers.length).equals(";")) {
             return read.fail(1, places.get(at + 1 + numbers.length));
         }
-        read.words.add(words[kind]);
-        read.numbers.add(numbers);
+        read.add(words[kind], numbers);
         return true;
     }
 
     private static void siege(String text) {
-        Read due = read(text, SIEGE_WORDS, SIEGE_LIMITS, 60, 0);
+        Read due = readSiege(text);
         HiredEnemy x = new HiredEnemy();
         int got = Check.siege(x, text);
         Check.same("3: " + text, got < 0 ? got + 10 : 0, due.fault);
@@ -166,7 +200,7 @@ public final class ReadingTest {
     }
 
     private static void contract(String text, int walls) {
-        Read due = read(text, CONTRACT_WORDS, CONTRACT_LIMITS, 20, walls);
+        Read due = readContract(text, walls);
         HiredEnemy x = Check.with("wall 9 9;".repeat(walls));
         int got = Check.contract(x, text);
         Check.same("4: " + text, got < 0 ? got + 10 : got, due.fault);
